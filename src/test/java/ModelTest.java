@@ -1,3 +1,4 @@
+import java.util.Arrays;
 import java.util.Map;
 import java.util.Random;
 import java.util.TreeMap;
@@ -11,10 +12,11 @@ public final class ModelTest {
         "join", "close", "tick", "on", "late", "person", "boardAt", "count",
     };
     // How often each call comes; joins and closes are rare, or no board would stay open.
-    private static final int[] WEIGHTS = {2, 4, 3, 1, 2, 12, 6, 14, 10, 4, 1, 1, 8, 6, 4, 12, 8, 3};
+    private static final int[] WEIGHTS = {6, 25, 10, 8, 10, 80, 30, 150, 200, 60, 4, 4, 70, 60, 40, 120, 80, 20};
 
     private final Check check = new Check();
     private final Map<String, Integer> outcomes = new TreeMap<>();
+    private Model model;
     private int persons;
     private int teams;
 
@@ -30,15 +32,15 @@ public final class ModelTest {
     private void run(int seed) {
         Random random = new Random(seed);
         // Few persons and teams in some runs, so that calls meet the same ones often.
-        persons = 4 + random.nextInt(37);
-        teams = 2 + random.nextInt(15);
+        persons = 4 + random.nextInt(33);
+        teams = 2 + random.nextInt(7);
         EntryRows x = new EntryRows();
-        Model model = new Model();
+        model = new Model();
         for (int call = 0; call < MOST_CALLS && !check.failed(); call++) {
-            String name = call < 2 ? "board" : pick(random);
+            String name = call < 2 ? "board" : call == 2 ? "rest" : pick(random);
             int[] a = arguments(name, random);
             String due = answer(null, model, name, a);
-            check.about("run " + seed + ", call " + call + ", " + name + java.util.Arrays.toString(a));
+            check.about("run " + seed + ", call " + call + ", " + name + Arrays.toString(a));
             check.same(due, answer(x, null, name, a));
             String kind = due.startsWith("throws.") ? due : "an answer";
             outcomes.merge(name + " " + kind, 1, Integer::sum);
@@ -74,15 +76,16 @@ public final class ModelTest {
         int flag = r.nextInt(4) == 0 ? 0 : 1;
         switch (name) {
             case "board": return new int[] {1 + number(r, r.nextInt(3) == 0 ? 6 : 2), 1 + number(r, r.nextBoolean() ? 10_000 : 300), number(r, r.nextBoolean() ? 4 : 2)};
-            case "keep": return new int[] {board, person};
+            // Mostly keepers of no team, or few teams would ever be ready.
+            case "keep": return new int[] {board, r.nextInt(4) == 0 ? person : 36 + r.nextInt(4)};
             case "right": return new int[] {person, flag};
             case "rest": return new int[] {number(r, r.nextInt(4) == 0 ? 10_001 : 30)};
             case "heat": return new int[] {number(r, 6), number(r, 101)};
             case "member": return new int[] {team, person, flag};
             case "safety": return new int[] {board, team, flag};
             case "enter": return new int[] {board, team, number(r, 10), number(r, 6), 1 - flag};
-            case "out": return new int[] {board, person};
-            case "swap": return new int[] {person, number(r, persons)};
+            case "out": return comingOut(board, person, r);
+            case "swap": return new int[] {somebodyInside(r), r.nextBoolean() ? somebodyInside(r) : person};
             case "join": return new int[] {board, number(r, 8)};
             case "close": return new int[] {board};
             case "tick": return new int[] {1 + number(r, r.nextInt(8) == 0 ? 5_000 : 200)};
@@ -92,6 +95,26 @@ public final class ModelTest {
             case "boardAt": return new int[] {board, number(r, 5)};
             default: return new int[] {number(r, 4)};
         }
+    }
+
+    /** A person drawn at random is hardly ever inside, so half of these calls look for one. */
+    private int somebodyInside(Random r) {
+        int start = r.nextInt(40);
+        for (int n = 0; n < 40; n++) {
+            int p = (start + n) % 40;
+            if (model.person(p, 0) >= 0) {
+                return p;
+            }
+        }
+        return start;
+    }
+
+    private int[] comingOut(int board, int person, Random r) {
+        if (r.nextBoolean()) {
+            return new int[] {board, person};
+        }
+        int p = somebodyInside(r);
+        return new int[] {model.person(p, 0), p};
     }
 
     private static String answer(EntryRows x, Model m, String name, int[] a) {

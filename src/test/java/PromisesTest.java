@@ -39,6 +39,7 @@ public final class PromisesTest {
         t.boardAt();
         t.sum();
         t.count();
+        t.edgeNumbers();
         t.wildArguments();
         t.check.end();
     }
@@ -740,6 +741,43 @@ public final class PromisesTest {
         }
         x.close(1);
         check.due(1, () -> x.count(3));
+    }
+
+    /** The first and the last person, the last team, the last board, and as many inside as may be. */
+    private void edgeNumbers() {
+        check.about("edge numbers");
+        EntryRows x = new EntryRows();
+        for (int b = 0; b < 8; b++) {
+            x.board(1, 50, 0);
+        }
+        team(x, 15, 0, 39);
+        x.safety(7, 15, true);
+        check.due(1, () -> x.boardAt(7, 3));
+        x.keep(7, 38);
+        check.due(0, () -> x.enter(7, 15, 0, 0, false));
+        check.due(0, () -> x.boardAt(7, 3));
+        check.due(2, () -> x.tick(51));
+        check.due(0, () -> x.late(0));
+        check.due(39, () -> x.late(1));
+        x.keep(6, 37);
+        check.due(2, () -> x.join(7, 6));
+        for (int p = 1; p < 37; p++) {
+            x.member((p - 1) / 6, p, true);
+        }
+        for (int t = 5; t >= 0; t--) {
+            x.enter(6, t, 0, 0, false);
+        }
+        check.due(38, () -> x.boardAt(6, 2));
+        check.due(38, () -> x.count(1));
+        check.due(0, () -> x.on(6, 0));
+        check.due(39, () -> x.on(6, 1));
+        check.due(31, () -> x.on(6, 2));
+        check.due(6, () -> x.on(6, 37));
+        check.due(-1, () -> x.on(6, 38));
+        check.due(36, () -> x.tick(51));
+        check.due(36, () -> x.late(36));
+        check.due(39, () -> x.late(37));
+        check.due(-1, () -> x.late(38));
     }
 
     private void wildArguments() {
