@@ -1,3 +1,9 @@
+import java.lang.reflect.InvocationTargetException;
+import java.lang.reflect.Method;
+import java.lang.reflect.Modifier;
+import java.util.Arrays;
+import java.util.Comparator;
+
 /** Counts the answers that are not as due, and prints each of them. */
 final class Check {
     interface Call {
@@ -16,14 +22,42 @@ final class Check {
         about = what;
     }
 
-    void due(int want, Call call) {
-        String got;
-        try {
-            got = Integer.toString(call.answer());
-        } catch (RuntimeException e) {
-            got = "throws." + e.getClass().getSimpleName();
+    /** Each method that is neither private nor static is a test: none can be left out of a list. */
+    void runAll(Object tests) {
+        Method[] all = tests.getClass().getDeclaredMethods();
+        Arrays.sort(all, Comparator.comparing(Method::getName));
+        for (Method m : all) {
+            boolean hidden = Modifier.isPrivate(m.getModifiers()) || Modifier.isStatic(m.getModifiers());
+            if (!hidden && m.getParameterCount() == 0) {
+                runOne(tests, m);
+            }
         }
-        same(Integer.toString(want), got);
+    }
+
+    private void runOne(Object tests, Method m) {
+        about(m.getName());
+        try {
+            m.invoke(tests);
+        } catch (InvocationTargetException e) {
+            wrong++;
+            System.out.println(m.getName() + ": a call of the scene was refused");
+            e.getCause().printStackTrace(System.out);
+        } catch (IllegalAccessException e) {
+            wrong++;
+            System.out.println(m.getName() + ": can't be called");
+        }
+    }
+
+    void due(int want, Call call) {
+        same(Integer.toString(want), answer(call));
+    }
+
+    static String answer(Call call) {
+        try {
+            return Integer.toString(call.answer());
+        } catch (RuntimeException e) {
+            return "throws." + e.getClass().getSimpleName();
+        }
     }
 
     void fine(Act act) {
@@ -48,7 +82,7 @@ final class Check {
 
     // The class's own name is compared: an ArrayIndexOutOfBoundsException of the machine is wrong
     // even where the document asks for an IndexOutOfBoundsException.
-    private static String outcome(Act act) {
+    static String outcome(Act act) {
         try {
             act.run();
             return "nothing";
@@ -81,7 +115,8 @@ final class Check {
 
     void end() {
         System.out.println(looked + " answers looked at, " + wrong + " not as due");
-        if (wrong != 0) {
+        // A test that looks at nothing has not run, which must not pass for success.
+        if (wrong != 0 || looked == 0) {
             System.exit(1);
         }
     }

@@ -7,60 +7,11 @@ public final class PromisesTest {
 
     public static void main(String[] args) {
         PromisesTest t = new PromisesTest();
-        t.newObject();
-        t.board();
-        t.keep();
-        t.keepReplaces();
-        t.right();
-        t.rest();
-        t.restTellsAtTheComingOut();
-        t.heat();
-        t.member();
-        t.memberInside();
-        t.safety();
-        t.safetyReadiness();
-        t.enter();
-        t.enterNeedsKeeperAndReadyTeam();
-        t.enterNeedsSafety();
-        t.enterAsRescue();
-        t.enterRefusedInOrder();
-        t.out();
-        t.swap();
-        t.swapAcrossBoards();
-        t.join();
-        t.joinPassesTheRest();
-        t.close();
-        t.tick();
-        t.tickToTheLastSecond();
-        t.tickAndJoin();
-        t.on();
-        t.late();
-        t.person();
-        t.boardAt();
-        t.sum();
-        t.count();
-        t.edgeNumbers();
-        t.wildArguments();
+        t.check.runAll(t);
         t.check.end();
     }
 
-    private static void team(EntryRows x, int team, int... persons) {
-        for (int p : persons) {
-            x.member(team, p, true);
-        }
-    }
-
-    /** Board 0 (least 1, longest 100, no safety) kept by 39; team 0 is 1, 2; team 1 is 3. */
-    private static EntryRows scene() {
-        EntryRows x = new EntryRows();
-        x.board(1, 100, 0);
-        x.keep(0, 39);
-        team(x, 0, 2, 1);
-        team(x, 1, 3);
-        return x;
-    }
-
-    private void newObject() {
+    void newObject() {
         check.about("promise 1");
         EntryRows x = new EntryRows();
         for (int what = 0; what < 4; what++) {
@@ -87,7 +38,7 @@ public final class PromisesTest {
         check.due(0, () -> x.count(3));
     }
 
-    private void board() {
+    void board() {
         check.about("promise 2");
         EntryRows x = new EntryRows();
         check.range(() -> x.board(0, 1, 0));
@@ -114,9 +65,9 @@ public final class PromisesTest {
         check.due(7, () -> x.count(3));
     }
 
-    private void keep() {
+    void keep() {
         check.about("promise 3");
-        EntryRows x = scene();
+        EntryRows x = Scenes.small();
         check.unknown(() -> x.keep(1, 5));
         check.unknown(() -> x.keep(-1, 5));
         check.unknown(() -> x.keep(0, 40));
@@ -139,8 +90,8 @@ public final class PromisesTest {
         check.due(-1, () -> x.boardAt(1, 1));
     }
 
-    private void keepReplaces() {
-        EntryRows x = scene();
+    void keepReplaces() {
+        EntryRows x = Scenes.small();
         check.fine(() -> x.keep(0, 38));
         check.due(38, () -> x.boardAt(0, 1));
         check.due(0, () -> x.person(38, 9));
@@ -149,15 +100,15 @@ public final class PromisesTest {
         check.due(-1, () -> x.person(38, 9));
     }
 
-    private void right() {
+    void right() {
         check.about("promise 4");
         EntryRows x = new EntryRows();
         check.unknown(() -> x.right(-1, true));
         check.unknown(() -> x.right(40, false));
         x.board(1, 10, 1);
         x.keep(0, 39);
-        team(x, 0, 0);
-        team(x, 1, 1);
+        Scenes.team(x, 0, 0);
+        Scenes.team(x, 1, 1);
         check.state(() -> x.enter(0, 0, 0, 0, true));
         check.fine(() -> x.right(39, true));
         check.state(() -> x.enter(0, 0, 0, 0, false));
@@ -172,9 +123,9 @@ public final class PromisesTest {
         check.due(1, () -> x.enter(0, 1, 0, 0, true));
     }
 
-    private void rest() {
+    void rest() {
         check.about("promise 5");
-        EntryRows x = scene();
+        EntryRows x = Scenes.small();
         check.range(() -> x.rest(-1));
         check.range(() -> x.rest(10_001));
         x.enter(0, 1, 0, 0, false);
@@ -194,8 +145,8 @@ public final class PromisesTest {
         check.due(10_600, () -> x.person(3, 5));
     }
 
-    private void restTellsAtTheComingOut() {
-        EntryRows x = scene();
+    void restTellsAtTheComingOut() {
+        EntryRows x = Scenes.small();
         x.rest(50);
         x.enter(0, 1, 0, 0, false);
         x.rest(70);
@@ -208,9 +159,9 @@ public final class PromisesTest {
         check.fine(() -> x.enter(0, 1, 0, 0, false));
     }
 
-    private void heat() {
+    void heat() {
         check.about("promise 6");
-        EntryRows x = scene();
+        EntryRows x = Scenes.small();
         check.unknown(() -> x.heat(-1, 0));
         check.unknown(() -> x.heat(6, 0));
         check.unknown(() -> x.heat(6, 101));
@@ -228,7 +179,7 @@ public final class PromisesTest {
         check.due(0, () -> x.person(2, 7));
     }
 
-    private void member() {
+    void member() {
         check.about("promise 7");
         EntryRows x = new EntryRows();
         check.unknown(() -> x.member(-1, 0, true));
@@ -254,8 +205,8 @@ public final class PromisesTest {
         check.due(0, () -> x.member(0, 0, false));
     }
 
-    private void memberInside() {
-        EntryRows x = scene();
+    void memberInside() {
+        EntryRows x = Scenes.small();
         x.enter(0, 0, 0, 0, false);
         check.state(() -> x.member(0, 1, false));
         check.state(() -> x.member(1, 1, true));
@@ -269,9 +220,9 @@ public final class PromisesTest {
         check.state(() -> x.enter(0, 1, 0, 0, false));
     }
 
-    private void safety() {
+    void safety() {
         check.about("promise 8");
-        EntryRows x = scene();
+        EntryRows x = Scenes.small();
         x.board(2, 10, 1);
         check.unknown(() -> x.safety(2, 0, true));
         check.unknown(() -> x.safety(-1, 0, true));
@@ -295,8 +246,8 @@ public final class PromisesTest {
         check.due(2, () -> x.boardAt(0, 3));
     }
 
-    private void safetyReadiness() {
-        EntryRows x = scene();
+    void safetyReadiness() {
+        EntryRows x = Scenes.small();
         x.board(1, 10, 0);
         x.safety(1, 0, true);
         x.safety(1, 1, true);
@@ -318,9 +269,9 @@ public final class PromisesTest {
         check.due(1, () -> x.boardAt(1, 3));
     }
 
-    private void enter() {
+    void enter() {
         check.about("promise 9");
-        EntryRows x = scene();
+        EntryRows x = Scenes.small();
         x.tick(7);
         check.due(0, () -> x.enter(0, 1, 9, 5, false));
         check.due(1, () -> x.enter(0, 0, 3, 4, true));
@@ -336,11 +287,11 @@ public final class PromisesTest {
         check.due(3, () -> x.boardAt(0, 2));
     }
 
-    private void enterNeedsKeeperAndReadyTeam() {
+    void enterNeedsKeeperAndReadyTeam() {
         EntryRows x = new EntryRows();
         x.board(2, 100, 0);
-        team(x, 0, 0, 1);
-        team(x, 1, 2);
+        Scenes.team(x, 0, 0, 1);
+        Scenes.team(x, 1, 2);
         check.state(() -> x.enter(0, 0, 0, 0, false));
         check.state(() -> x.enter(0, 0, 0, 0, true));
         x.keep(0, 39);
@@ -364,12 +315,12 @@ public final class PromisesTest {
         check.due(2, () -> x.enter(1, 0, 0, 0, false));
     }
 
-    private void enterNeedsSafety() {
+    void enterNeedsSafety() {
         EntryRows x = new EntryRows();
         x.board(1, 100, 2);
         x.keep(0, 39);
         for (int t = 0; t < 4; t++) {
-            team(x, t, 10 + t);
+            Scenes.team(x, t, 10 + t);
         }
         x.safety(0, 0, true);
         check.state(() -> x.enter(0, 3, 0, 0, false));
@@ -384,13 +335,13 @@ public final class PromisesTest {
         check.due(2, () -> x.count(1));
     }
 
-    private void enterAsRescue() {
+    void enterAsRescue() {
         EntryRows x = new EntryRows();
         x.board(1, 100, 1);
         x.keep(0, 39);
-        team(x, 0, 0);
-        team(x, 1, 1);
-        team(x, 2, 2);
+        Scenes.team(x, 0, 0);
+        Scenes.team(x, 1, 1);
+        Scenes.team(x, 2, 2);
         x.safety(0, 1, true);
         // Told as a rescue, but with all that is needed: it goes in without the keeper's right.
         check.due(0, () -> x.enter(0, 0, 0, 0, true));
@@ -403,8 +354,8 @@ public final class PromisesTest {
         check.due(2, () -> x.enter(0, 2, 0, 0, true));
     }
 
-    private void enterRefusedInOrder() {
-        EntryRows x = scene();
+    void enterRefusedInOrder() {
+        EntryRows x = Scenes.small();
         x.close(0);
         check.unknown(() -> x.enter(1, 0, 10, 6, false));
         check.unknown(() -> x.enter(-1, 0, 0, 0, false));
@@ -418,9 +369,9 @@ public final class PromisesTest {
         check.due(0, () -> x.count(2));
     }
 
-    private void out() {
+    void out() {
         check.about("promise 10");
-        EntryRows x = scene();
+        EntryRows x = Scenes.small();
         x.board(1, 10, 0);
         x.heat(2, 5);
         check.unknown(() -> x.out(2, 0));
@@ -450,9 +401,9 @@ public final class PromisesTest {
         check.due(4, () -> x.out(0, 2));
     }
 
-    private void swap() {
+    void swap() {
         check.about("promise 11");
-        EntryRows x = scene();
+        EntryRows x = Scenes.small();
         check.unknown(() -> x.swap(-1, 1));
         check.unknown(() -> x.swap(1, 40));
         check.state(() -> x.swap(1, 2));
@@ -468,8 +419,8 @@ public final class PromisesTest {
         check.due(1, () -> x.on(0, 1));
     }
 
-    private void swapAcrossBoards() {
-        EntryRows x = scene();
+    void swapAcrossBoards() {
+        EntryRows x = Scenes.small();
         x.board(1, 10, 0);
         x.keep(1, 38);
         x.enter(0, 0, 1, 1, false);
@@ -488,9 +439,9 @@ public final class PromisesTest {
         check.due(3, () -> x.on(1, 0));
     }
 
-    private void join() {
+    void join() {
         check.about("promise 12");
-        EntryRows x = scene();
+        EntryRows x = Scenes.small();
         x.board(1, 10, 0);
         x.board(1, 10, 0);
         check.unknown(() -> x.join(0, 3));
@@ -521,8 +472,8 @@ public final class PromisesTest {
         check.due(1, () -> x.count(3));
     }
 
-    private void joinPassesTheRest() {
-        EntryRows x = scene();
+    void joinPassesTheRest() {
+        EntryRows x = Scenes.small();
         x.board(2, 10, 0);
         x.safety(0, 0, true);
         x.safety(0, 1, true);
@@ -537,9 +488,9 @@ public final class PromisesTest {
         check.fine(() -> x.keep(1, 39));
     }
 
-    private void close() {
+    void close() {
         check.about("promise 13");
-        EntryRows x = scene();
+        EntryRows x = Scenes.small();
         check.unknown(() -> x.close(1));
         check.unknown(() -> x.close(-1));
         x.board(1, 10, 0);
@@ -564,9 +515,9 @@ public final class PromisesTest {
         check.due(2, () -> x.board(1, 1, 0));
     }
 
-    private void tick() {
+    void tick() {
         check.about("promise 14");
-        EntryRows x = scene();
+        EntryRows x = Scenes.small();
         check.range(() -> x.tick(0));
         check.range(() -> x.tick(-1));
         check.range(() -> x.tick(5_001));
@@ -583,8 +534,8 @@ public final class PromisesTest {
         check.due(0, () -> x.tick(5_000));
     }
 
-    private void tickToTheLastSecond() {
-        EntryRows x = scene();
+    void tickToTheLastSecond() {
+        EntryRows x = Scenes.small();
         x.heat(0, 100);
         x.rest(10_000);
         x.enter(0, 1, 0, 0, false);
@@ -603,8 +554,8 @@ public final class PromisesTest {
         check.due(1_009_999, () -> x.person(3, 5));
     }
 
-    private void tickAndJoin() {
-        EntryRows x = scene();
+    void tickAndJoin() {
+        EntryRows x = Scenes.small();
         x.board(1, 20, 0);
         x.board(1, 200, 0);
         x.enter(0, 1, 0, 0, false);
@@ -620,9 +571,9 @@ public final class PromisesTest {
         check.due(1, () -> x.tick(1));
     }
 
-    private void on() {
+    void on() {
         check.about("promise 15");
-        EntryRows x = scene();
+        EntryRows x = Scenes.small();
         check.unknown(() -> x.on(1, 0));
         check.unknown(() -> x.on(-1, -1));
         check.range(() -> x.on(0, -1));
@@ -639,9 +590,9 @@ public final class PromisesTest {
         check.due(-1, () -> x.on(0, 2));
     }
 
-    private void late() {
+    void late() {
         check.about("promise 16");
-        EntryRows x = scene();
+        EntryRows x = Scenes.small();
         check.range(() -> x.late(-1));
         check.range(() -> x.late(MIN));
         x.enter(0, 1, 0, 0, false);
@@ -660,9 +611,9 @@ public final class PromisesTest {
         check.due(-1, () -> x.late(2));
     }
 
-    private void person() {
+    void person() {
         check.about("promise 17");
-        EntryRows x = scene();
+        EntryRows x = Scenes.small();
         check.unknown(() -> x.person(-1, 0));
         check.unknown(() -> x.person(40, 0));
         check.unknown(() -> x.person(0, -1));
@@ -688,9 +639,9 @@ public final class PromisesTest {
         }
     }
 
-    private void boardAt() {
+    void boardAt() {
         check.about("promise 18");
-        EntryRows x = scene();
+        EntryRows x = Scenes.small();
         check.unknown(() -> x.boardAt(1, 0));
         check.unknown(() -> x.boardAt(-1, 0));
         check.unknown(() -> x.boardAt(0, -1));
@@ -704,8 +655,8 @@ public final class PromisesTest {
         }
     }
 
-    private void sum() {
-        EntryRows x = scene();
+    void sum() {
+        EntryRows x = Scenes.small();
         check.due(0, () -> x.boardAt(0, 4));
         x.enter(0, 1, 0, 0, false);
         int one = Integer.rotateLeft(3_000, 5) * 0x85EBCA6B;
@@ -725,9 +676,9 @@ public final class PromisesTest {
         check.due(c, () -> x.boardAt(1, 4));
     }
 
-    private void count() {
+    void count() {
         check.about("promise 19");
-        EntryRows x = scene();
+        EntryRows x = Scenes.small();
         check.unknown(() -> x.count(-1));
         check.unknown(() -> x.count(4));
         x.board(1, 1, 0);
@@ -744,13 +695,13 @@ public final class PromisesTest {
     }
 
     /** The first and the last person, the last team, the last board, and as many inside as may be. */
-    private void edgeNumbers() {
+    void edgeNumbers() {
         check.about("edge numbers");
         EntryRows x = new EntryRows();
         for (int b = 0; b < 8; b++) {
             x.board(1, 50, 0);
         }
-        team(x, 15, 0, 39);
+        Scenes.team(x, 15, 0, 39);
         x.safety(7, 15, true);
         check.due(1, () -> x.boardAt(7, 3));
         x.keep(7, 38);
@@ -780,10 +731,10 @@ public final class PromisesTest {
         check.due(-1, () -> x.late(38));
     }
 
-    private void wildArguments() {
+    void wildArguments() {
         check.about("wild arguments");
         for (int wild : new int[] {MIN, MAX}) {
-            EntryRows x = scene();
+            EntryRows x = Scenes.small();
             check.range(() -> x.board(wild, 1, 0));
             check.range(() -> x.board(1, wild, 0));
             check.range(() -> x.board(1, 1, wild));
