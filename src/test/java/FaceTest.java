@@ -46,18 +46,24 @@ public final class FaceTest {
             due.add("public " + line);
         }
         check.same(due.toString(), seen.toString());
-        for (Method m : EntryRows.class.getDeclaredMethods()) {
-            boolean hides = Modifier.isPrivate(m.getModifiers()) && publicNames.contains(m.getName());
-            check.same("no private method of a public one's name", hides ? m.getName() : "no private method of a public one's name");
-        }
+        privateNames(check, EntryRows.class, publicNames);
         fields(check);
         check.same("public final", Modifier.toString(EntryRows.class.getModifiers()));
         Constructor<?>[] made = EntryRows.class.getDeclaredConstructors();
         check.same("[public EntryRows()]", Arrays.toString(made));
         for (Class<?> inside : EntryRows.class.getDeclaredClasses()) {
             check.same("static", Modifier.isStatic(inside.getModifiers()) ? "static" : inside.getName());
+            privateNames(check, inside, publicNames);
         }
         check.end();
+    }
+
+    private static void privateNames(Check check, Class<?> of, Set<String> publicNames) {
+        String due = "no private method of a public one's name";
+        for (Method m : of.getDeclaredMethods()) {
+            boolean hides = Modifier.isPrivate(m.getModifiers()) && publicNames.contains(m.getName());
+            check.same(due, hides ? m.getName() : due);
+        }
     }
 
     private static void fields(Check check) {
